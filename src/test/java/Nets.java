@@ -1,0 +1,55 @@
+/** Nets and texts that several tests start from. */
+final class Nets {
+    static final int NONE = BulletinNet.NONE;
+    static final Class<?> INDEX = IndexOutOfBoundsException.class;
+    static final Class<?> ARGUMENT = IllegalArgumentException.class;
+    static final Class<?> STATE = IllegalStateException.class;
+
+    private Nets() {
+    }
+
+    /** Nodes 0 to count-1 of the addresses 1:1/0, 1:1/1 and so on, without hubs and links. */
+    static BulletinNet loose(int count) {
+        BulletinNet net = new BulletinNet();
+        for (int node = 0; node < count; node++) {
+            net.addNode(1, 1, node, NONE, 0);
+        }
+        return net;
+    }
+
+    /** A net with one link from 0 to 1, called at that hour, that carries area 0. */
+    static BulletinNet pair(int hour) {
+        BulletinNet net = loose(2);
+        net.link(0, 1, hour);
+        net.carry(0, 0, true);
+        return net;
+    }
+
+    /**
+     * A tree: 0 is the hub of 1 and 2, 1 of 3 and 4, 3 of 5; 6 stands alone. The link of node n to
+     * its hub is n - 1, and it is called at the hour n.
+     */
+    static BulletinNet tree() {
+        BulletinNet net = new BulletinNet();
+        int[] hubs = {NONE, 0, 0, 1, 1, 3};
+        for (int node = 0; node < hubs.length; node++) {
+            net.addNode(2, 5, node, hubs[node], node);
+        }
+        net.addNode(2, 5, 6, NONE, 0);
+        return net;
+    }
+
+    /** Lets the hours pass that are missing until the clock stands there. */
+    static void passTo(BulletinNet net, int clock) {
+        while (net.clock() < clock) {
+            net.pass(Math.min(240, clock - net.clock()));
+        }
+    }
+
+    static void write(BulletinNet net, String text) {
+        net.clearText();
+        for (char character : text.toCharArray()) {
+            net.type(character);
+        }
+    }
+}
