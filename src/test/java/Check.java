@@ -31,10 +31,17 @@ final class Check {
         try {
             call.run();
         } catch (RuntimeException e) {
-            got = e.getClass().getName();
+            got = thrown(e);
         }
         is(what + " throws", got, kind.getName());
         is("the state behind " + what, State.of(net), before);
+    }
+
+    /** The exception's name; another text if not the net threw it, but the machine or the library. */
+    static String thrown(RuntimeException e) {
+        StackTraceElement[] trace = e.getStackTrace();
+        boolean isOwn = trace.length > 0 && trace[0].getClassName().equals("BulletinNet");
+        return isOwn ? e.getClass().getName() : "from outside: " + e;
     }
 
     static void end(String test) {
