@@ -384,26 +384,21 @@ public final class BulletinNet {
         StringBuilder line = new StringBuilder();
         int left = set;
         int netAhead = NONE;
-        int nodeAhead = NONE;
         for (int i = 0; i < allNodes.size(); i++) {
             Node next = firstWritten(left);
             if (next == null) {
                 return line;
             }
             left = left & ~next.asSet();
-            boolean isNewNet = next.address.net != netAhead;
-            if (isNewNet || next.address.node != nodeAhead) {
-                if (line.length() > 0) {
-                    line.append(' ');
-                }
-                if (isNewNet) {
-                    line.append(next.address.net);
-                    line.append('/');
-                }
-                line.append(next.address.node);
+            if (line.length() > 0) {
+                line.append(' ');
             }
+            if (next.address.net != netAhead) {
+                line.append(next.address.net);
+                line.append('/');
+            }
+            line.append(next.address.node);
             netAhead = next.address.net;
-            nodeAhead = next.address.node;
         }
         return line;
     }

@@ -238,9 +238,20 @@ public final class MessagesTest {
         }
         joinAll(net);
         net.post(0, 0);
-        Check.is("once for each", State.seenText(net, 0, 0), "7/6 7 8 8/7");
+        Check.is("once for each node", State.seenText(net, 0, 0), "7/6 7 7 7 8 8/7 7");
         net.post(0, 2);
-        Check.is("twice the same", State.seenText(net, 2, 1), "7/7");
+        Check.is("twice the same", State.seenText(net, 2, 1), "7/7 7");
+        net.post(0, 6);
+        Check.is("the same node number alone", State.seenText(net, 6, 2), "7/7 8/7");
+        BulletinNet same = new BulletinNet();
+        for (int node = 0; node < 12; node++) {
+            same.addNode(1 + node % 9, 50 + node / 9, 3, NONE, 0);
+        }
+        joinAll(same);
+        same.post(2, 9);
+        Check.is("no link that carries it", State.seenText(same, 9, 0), "51/3");
+        same.post(0, 0);
+        Check.is("all zones", State.seenText(same, 0, 1), "50/3 3 3 3 3 3 3 3 3 51/3 3 3");
         BulletinNet full = new BulletinNet();
         for (int node = 0; node < 12; node++) {
             full.addNode(1, 99 - node, 99, NONE, 0);

@@ -1,4 +1,5 @@
 import java.util.ArrayList;
+import java.util.Collections;
 import java.util.List;
 import java.util.TreeSet;
 import java.util.regex.Matcher;
@@ -272,12 +273,13 @@ final class PlainNet {
     char seenAt(int node, int message, int place) {
         needMessage(node, message);
         needIndex(place >= 0);
-        TreeSet<Integer> keys = new TreeSet<>();
+        List<Integer> keys = new ArrayList<>();
         for (int other = 0; other < addresses.size(); other++) {
             if ((setOf[node][message] >> other & 1) == 1) {
                 keys.add(addresses.get(other)[1] * 100 + addresses.get(other)[2]);
             }
         }
+        Collections.sort(keys);
         StringBuilder line = new StringBuilder();
         int net = 0;
         for (int key : keys) {
