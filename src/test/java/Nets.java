@@ -39,6 +39,48 @@ final class Nets {
         return net;
     }
 
+    /** Two nodes and as many links from 0 to 1 as are wanted, called at the hours 0, 1 and so on. */
+    static BulletinNet linked(int links) {
+        BulletinNet net = loose(2);
+        for (int link = 0; link < links; link++) {
+            net.link(0, 1, link);
+        }
+        return net;
+    }
+
+    /** A net of 12 nodes round node 0, over the links 0 to 10, which all carry area 0. */
+    static BulletinNet wheel() {
+        BulletinNet net = loose(12);
+        for (int node = 1; node < 12; node++) {
+            net.link(0, node, node);
+            net.carry(node - 1, 0, true);
+        }
+        return net;
+    }
+
+    /**
+     * A net that has all it can hold, in the midst of its work: 12 nodes, 20 links, 30 messages, 30
+     * mails and 10 characters, a link that is down, links that wait, and bundles that are not empty.
+     */
+    static BulletinNet full() {
+        BulletinNet net = wheel();
+        for (int node = 1; node < 10; node++) {
+            net.link(node, node + 1, 0);
+            net.carry(10 + node, 1, true);
+        }
+        net.setDown(12, true);
+        net.setHome(5);
+        for (int item = 0; item < 30; item++) {
+            net.post(item % 3, item % 12);
+            net.mail(item % 12, (item + 1) % 12);
+            if (item % 10 == 9) {
+                net.pass(1);
+            }
+        }
+        write(net, "1:1/7/1:1/");
+        return net;
+    }
+
     /** Lets the hours pass that are missing until the clock stands there. */
     static void passTo(BulletinNet net, int clock) {
         while (net.clock() < clock) {
