@@ -24,9 +24,8 @@ final class Check {
         }
     }
 
-    /** The call must throw exactly this kind, and change nothing that can be asked. */
-    static void fails(String what, BulletinNet net, Class<?> kind, Runnable call) {
-        String before = State.of(net);
+    /** The call must throw exactly this kind; Edge.refused asks too that it has changed nothing. */
+    static void fails(String what, Class<?> kind, Runnable call) {
         String got = "nothing";
         try {
             call.run();
@@ -34,7 +33,6 @@ final class Check {
             got = thrown(e);
         }
         is(what + " throws", got, kind.getName());
-        is("the state behind " + what, State.of(net), before);
     }
 
     /** The exception's name; another text if not the net threw it, but the machine or the library. */

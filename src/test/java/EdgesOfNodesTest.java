@@ -31,6 +31,7 @@ public final class EdgesOfNodesTest {
         promise6PartsMissingFromTheLeft();
         promise6TextsThatAreNoAddress();
         promise6PartsMissingWithoutNodes();
+        promise6ARefusedFindLeavesTheText();
         promise7FromNoneToTwelve();
         Check.end("EdgesOfNodesTest");
     }
@@ -396,6 +397,7 @@ public final class EdgesOfNodesTest {
         BulletinNet empty = new BulletinNet();
         Nets.write(empty, text);
         Edge.is(6, "'" + text + "' without nodes", thrownByFind(empty), Nets.STATE.getName());
+        Edge.is(6, "'" + text + "' stays", empty.clearText(), text.length());
     }
 
     private static String thrownByFind(BulletinNet net) {
@@ -496,6 +498,25 @@ public final class EdgesOfNodesTest {
             Nets.write(net, text);
             Edge.is(6, "find of " + text + " without nodes", net.find(), NONE);
         }
+    }
+
+    private static void promise6ARefusedFindLeavesTheText() {
+        BulletinNet net = addresses();
+        Nets.write(net, "1:1/");
+        Edge.is(6, "find of 1:1/", thrownByFind(net), Nets.STATE.getName());
+        Edge.is(6, "type behind it", net.type('9'), 5);
+        Edge.is(6, "find of 1:1/9", net.find(), 2);
+        BulletinNet empty = new BulletinNet();
+        Nets.write(empty, "5");
+        Edge.is(6, "find of 5 without nodes", thrownByFind(empty), Nets.STATE.getName());
+        empty.addNode(7, 8, 5, NONE, 0);
+        Edge.is(6, "find of 5 with one", empty.find(), 0);
+        Edge.is(6, "its length", empty.clearText(), 1);
+        BulletinNet none = addresses();
+        Nets.write(none, "8:8/8");
+        Edge.is(6, "find of an address that no node has", none.find(), NONE);
+        none.addNode(8, 8, 8, NONE, 0);
+        Edge.is(6, "find of it when a node has it", none.find(), 7);
     }
 
     private static void promise7FromNoneToTwelve() {

@@ -37,20 +37,20 @@ public final class HoursTest {
     private static void theExceptionsOfPass() {
         BulletinNet net = Nets.pair(0);
         for (int hours : new int[] {0, -1, 241, Integer.MIN_VALUE, Integer.MAX_VALUE}) {
-            Check.fails("pass of " + hours, net, Nets.ARGUMENT, () -> net.pass(hours));
+            Check.fails("pass of " + hours, Nets.ARGUMENT, () -> net.pass(hours));
         }
     }
 
     private static void theClockEnds() {
         BulletinNet net = Nets.pair(15);
         Nets.passTo(net, 9999);
-        Check.fails("two hours too many", net, Nets.STATE, () -> net.pass(2));
-        Check.fails("first the hours", net, Nets.ARGUMENT, () -> net.pass(241));
-        Check.fails("first no hours", net, Nets.ARGUMENT, () -> net.pass(0));
+        Check.fails("two hours too many", Nets.STATE, () -> net.pass(2));
+        Check.fails("first the hours", Nets.ARGUMENT, () -> net.pass(241));
+        Check.fails("first no hours", Nets.ARGUMENT, () -> net.pass(0));
         Check.is("the last hour", net.pass(1), 1);
         Check.is("clock", net.clock(), 10000);
-        Check.fails("an hour too many", net, Nets.STATE, () -> net.pass(1));
-        Check.fails("many hours too many", net, Nets.STATE, () -> net.pass(240));
+        Check.fails("an hour too many", Nets.STATE, () -> net.pass(1));
+        Check.fails("many hours too many", Nets.STATE, () -> net.pass(240));
         Check.is("calls", net.calls(0), 417);
         Check.is("cost", net.cost(0), 4170);
         Check.is("posting goes on", net.post(0, 0), 0);
@@ -256,7 +256,7 @@ public final class HoursTest {
     private static void costsOfNodesThatAreNotThere() {
         BulletinNet net = Nets.pair(0);
         for (int node : new int[] {-1, 2, 12, Integer.MIN_VALUE, Integer.MAX_VALUE}) {
-            Check.fails("cost of " + node, net, Nets.INDEX, () -> net.cost(node));
+            Check.fails("cost of " + node, Nets.INDEX, () -> net.cost(node));
         }
     }
 
@@ -287,11 +287,11 @@ public final class HoursTest {
     private static void theExceptionsOfReach() {
         BulletinNet net = Nets.loose(2);
         for (int number : new int[] {-1, 3, 12, 32, Integer.MIN_VALUE, Integer.MAX_VALUE}) {
-            Check.fails("reach in " + number, net, Nets.INDEX, () -> net.reach(number, 0));
-            Check.fails("reach from " + number, net, Nets.INDEX, () -> net.reach(0, number));
+            Check.fails("reach in " + number, Nets.INDEX, () -> net.reach(number, 0));
+            Check.fails("reach from " + number, Nets.INDEX, () -> net.reach(0, number));
         }
-        Check.fails("reach from 2", net, Nets.INDEX, () -> net.reach(0, 2));
+        Check.fails("reach from 2", Nets.INDEX, () -> net.reach(0, 2));
         BulletinNet empty = new BulletinNet();
-        Check.fails("reach in an empty net", empty, Nets.INDEX, () -> empty.reach(0, 0));
+        Check.fails("reach in an empty net", Nets.INDEX, () -> empty.reach(0, 0));
     }
 }

@@ -30,15 +30,15 @@ public final class LinksTest {
     private static void theExceptionsOfLink() {
         BulletinNet net = Nets.loose(2);
         for (int node : new int[] {-1, 2, Integer.MIN_VALUE, Integer.MAX_VALUE}) {
-            Check.fails("link from " + node, net, Nets.INDEX, () -> net.link(node, 1, 0));
-            Check.fails("link to " + node, net, Nets.INDEX, () -> net.link(1, node, 0));
-            Check.fails("link twice " + node, net, Nets.INDEX, () -> net.link(node, node, 0));
-            Check.fails("link to none at 24", net, Nets.INDEX, () -> net.link(0, node, 24));
+            Check.fails("link from " + node, Nets.INDEX, () -> net.link(node, 1, 0));
+            Check.fails("link to " + node, Nets.INDEX, () -> net.link(1, node, 0));
+            Check.fails("link twice " + node, Nets.INDEX, () -> net.link(node, node, 0));
+            Check.fails("link to none at 24", Nets.INDEX, () -> net.link(0, node, 24));
         }
         for (int hour : new int[] {-1, 24, Integer.MIN_VALUE, Integer.MAX_VALUE}) {
-            Check.fails("link at " + hour, net, Nets.ARGUMENT, () -> net.link(0, 1, hour));
+            Check.fails("link at " + hour, Nets.ARGUMENT, () -> net.link(0, 1, hour));
         }
-        Check.fails("link to itself", net, Nets.ARGUMENT, () -> net.link(1, 1, 0));
+        Check.fails("link to itself", Nets.ARGUMENT, () -> net.link(1, 1, 0));
         Check.is("links", net.links(), 0);
     }
 
@@ -47,10 +47,10 @@ public final class LinksTest {
         for (int link = 0; link < 20; link++) {
             Check.is("link", net.link(link % 3, (link + 1) % 3, link), link);
         }
-        Check.fails("a link too many", net, Nets.STATE, () -> net.link(0, 1, 0));
-        Check.fails("first no such node", net, Nets.INDEX, () -> net.link(0, 3, 0));
-        Check.fails("first the same node", net, Nets.ARGUMENT, () -> net.link(0, 0, 0));
-        Check.fails("first the hour", net, Nets.ARGUMENT, () -> net.link(0, 1, 24));
+        Check.fails("a link too many", Nets.STATE, () -> net.link(0, 1, 0));
+        Check.fails("first no such node", Nets.INDEX, () -> net.link(0, 3, 0));
+        Check.fails("first the same node", Nets.ARGUMENT, () -> net.link(0, 0, 0));
+        Check.fails("first the hour", Nets.ARGUMENT, () -> net.link(0, 1, 24));
         Check.is("links", net.links(), 20);
     }
 
@@ -75,8 +75,8 @@ public final class LinksTest {
         Check.is("the other area stays", net.carry(0, 2, true), false);
         Check.is("the other link stays", net.carry(1, 1, true), false);
         for (int area : new int[] {-1, 3, 32, Integer.MIN_VALUE, Integer.MAX_VALUE}) {
-            Check.fails("carry " + area, net, Nets.INDEX, () -> net.carry(0, area, true));
-            Check.fails("carry not " + area, net, Nets.INDEX, () -> net.carry(0, area, false));
+            Check.fails("carry " + area, Nets.INDEX, () -> net.carry(0, area, true));
+            Check.fails("carry not " + area, Nets.INDEX, () -> net.carry(0, area, false));
         }
     }
 
@@ -144,16 +144,16 @@ public final class LinksTest {
     private static void linksThatAreNotThere() {
         BulletinNet net = Nets.tree();
         for (int link : new int[] {-1, 5, 20, Integer.MIN_VALUE, Integer.MAX_VALUE}) {
-            Check.fails("carry over " + link, net, Nets.INDEX, () -> net.carry(link, 0, true));
-            Check.fails("setDown of " + link, net, Nets.INDEX, () -> net.setDown(link, true));
-            Check.fails("bundle of " + link, net, Nets.INDEX, () -> net.bundle(link, true));
-            Check.fails("other bundle of " + link, net, Nets.INDEX, () -> net.bundle(link, false));
-            Check.fails("calls of " + link, net, Nets.INDEX, () -> net.calls(link));
+            Check.fails("carry over " + link, Nets.INDEX, () -> net.carry(link, 0, true));
+            Check.fails("setDown of " + link, Nets.INDEX, () -> net.setDown(link, true));
+            Check.fails("bundle of " + link, Nets.INDEX, () -> net.bundle(link, true));
+            Check.fails("other bundle of " + link, Nets.INDEX, () -> net.bundle(link, false));
+            Check.fails("calls of " + link, Nets.INDEX, () -> net.calls(link));
         }
         BulletinNet empty = new BulletinNet();
-        Check.fails("calls of no link", empty, Nets.INDEX, () -> empty.calls(0));
-        Check.fails("carry over no link", empty, Nets.INDEX, () -> empty.carry(0, 0, true));
-        Check.fails("setDown of no link", empty, Nets.INDEX, () -> empty.setDown(0, true));
-        Check.fails("bundle of no link", empty, Nets.INDEX, () -> empty.bundle(0, true));
+        Check.fails("calls of no link", Nets.INDEX, () -> empty.calls(0));
+        Check.fails("carry over no link", Nets.INDEX, () -> empty.carry(0, 0, true));
+        Check.fails("setDown of no link", Nets.INDEX, () -> empty.setDown(0, true));
+        Check.fails("bundle of no link", Nets.INDEX, () -> empty.bundle(0, true));
     }
 }

@@ -28,24 +28,24 @@ public final class MailTest {
         for (int mail = 0; mail < 30; mail++) {
             Check.is("mail", net.mail(mail % 2, 1 - mail % 2), mail);
         }
-        Check.fails("a mail too many", net, Nets.STATE, () -> net.mail(0, 1));
-        Check.fails("first no such node", net, Nets.INDEX, () -> net.mail(0, 2));
-        Check.fails("first the same node", net, Nets.ARGUMENT, () -> net.mail(1, 1));
+        Check.fails("a mail too many", Nets.STATE, () -> net.mail(0, 1));
+        Check.fails("first no such node", Nets.INDEX, () -> net.mail(0, 2));
+        Check.fails("first the same node", Nets.ARGUMENT, () -> net.mail(1, 1));
         Check.is("messages count for themselves", net.post(0, 0), 0);
         Check.is("the caller's bundle", net.bundle(0, true), 16);
         net.pass(1);
         Check.is("room is not made by arriving", net.mailAt(0), 1);
-        Check.fails("a mail too many still", net, Nets.STATE, () -> net.mail(0, 1));
+        Check.fails("a mail too many still", Nets.STATE, () -> net.mail(0, 1));
     }
 
     private static void theExceptionsOfMail() {
         BulletinNet net = Nets.loose(3);
         for (int node : new int[] {-1, 3, 12, Integer.MIN_VALUE, Integer.MAX_VALUE}) {
-            Check.fails("mail from " + node, net, Nets.INDEX, () -> net.mail(node, 0));
-            Check.fails("mail to " + node, net, Nets.INDEX, () -> net.mail(0, node));
-            Check.fails("mail twice " + node, net, Nets.INDEX, () -> net.mail(node, node));
+            Check.fails("mail from " + node, Nets.INDEX, () -> net.mail(node, 0));
+            Check.fails("mail to " + node, Nets.INDEX, () -> net.mail(0, node));
+            Check.fails("mail twice " + node, Nets.INDEX, () -> net.mail(node, node));
         }
-        Check.fails("mail to itself", net, Nets.ARGUMENT, () -> net.mail(2, 2));
+        Check.fails("mail to itself", Nets.ARGUMENT, () -> net.mail(2, 2));
         Check.is("the first mail", net.mail(2, 0), 0);
     }
 
@@ -209,8 +209,8 @@ public final class MailTest {
         BulletinNet net = Nets.pair(0);
         net.mail(0, 1);
         for (int mail : new int[] {-1, 1, 30, Integer.MIN_VALUE, Integer.MAX_VALUE}) {
-            Check.fails("mailAt of " + mail, net, Nets.INDEX, () -> net.mailAt(mail));
-            Check.fails("isLost of " + mail, net, Nets.INDEX, () -> net.isLost(mail));
+            Check.fails("mailAt of " + mail, Nets.INDEX, () -> net.mailAt(mail));
+            Check.fails("isLost of " + mail, Nets.INDEX, () -> net.isLost(mail));
         }
     }
 }

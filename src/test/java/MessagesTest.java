@@ -25,19 +25,19 @@ public final class MessagesTest {
         for (int message = 0; message < 30; message++) {
             Check.is("post", net.post(message % 3, message % 2), message);
         }
-        Check.fails("a message too many", net, Nets.STATE, () -> net.post(0, 0));
-        Check.fails("first no such area", net, Nets.INDEX, () -> net.post(3, 0));
-        Check.fails("first no such node", net, Nets.INDEX, () -> net.post(0, 2));
+        Check.fails("a message too many", Nets.STATE, () -> net.post(0, 0));
+        Check.fails("first no such area", Nets.INDEX, () -> net.post(3, 0));
+        Check.fails("first no such node", Nets.INDEX, () -> net.post(0, 2));
         Check.is("mails count for themselves", net.mail(0, 1), 0);
     }
 
     private static void theExceptionsOfPost() {
         BulletinNet net = Nets.loose(2);
         for (int number : new int[] {-1, 3, 12, 32, Integer.MIN_VALUE, Integer.MAX_VALUE}) {
-            Check.fails("post in " + number, net, Nets.INDEX, () -> net.post(number, 0));
-            Check.fails("post at " + number, net, Nets.INDEX, () -> net.post(0, number));
+            Check.fails("post in " + number, Nets.INDEX, () -> net.post(number, 0));
+            Check.fails("post at " + number, Nets.INDEX, () -> net.post(0, number));
         }
-        Check.fails("post at 2", net, Nets.INDEX, () -> net.post(0, 2));
+        Check.fails("post at 2", Nets.INDEX, () -> net.post(0, 2));
         Check.is("post", net.post(2, 1), 0);
     }
 
@@ -210,7 +210,7 @@ public final class MessagesTest {
         joinAll(net);
         net.post(0, 0);
         String due = "1/1 9/5 99 30/4 11 40/0 2";
-        Check.is("written", State.seenText(net, 0, 0), due);
+        Check.is("written", Nets.seenText(net, 0, 0), due);
         for (int place = 0; place < due.length(); place++) {
             Check.is("the character at " + place, net.seenAt(0, 0, place), due.charAt(place));
         }
@@ -221,13 +221,13 @@ public final class MessagesTest {
             Check.is("a space without the message", net.seenAt(1, 0, place), ' ');
         }
         for (int place : new int[] {-1, Integer.MIN_VALUE}) {
-            Check.fails("the place " + place, net, Nets.INDEX, () -> net.seenAt(0, 0, place));
-            Check.fails("the place without it", net, Nets.INDEX, () -> net.seenAt(1, 0, place));
+            Check.fails("the place " + place, Nets.INDEX, () -> net.seenAt(0, 0, place));
+            Check.fails("the place without it", Nets.INDEX, () -> net.seenAt(1, 0, place));
         }
         net.post(1, 3);
-        Check.is("one alone", State.seenText(net, 3, 1), "9/5");
+        Check.is("one alone", Nets.seenText(net, 3, 1), "9/5");
         net.post(0, 4);
-        Check.is("two", State.seenText(net, 4, 2), "30/11 40/2");
+        Check.is("two", Nets.seenText(net, 4, 2), "30/11 40/2");
     }
 
     private static void theWrittenSetOverZones() {
@@ -238,27 +238,27 @@ public final class MessagesTest {
         }
         joinAll(net);
         net.post(0, 0);
-        Check.is("once for each node", State.seenText(net, 0, 0), "7/6 7 7 7 8 8/7 7");
+        Check.is("once for each node", Nets.seenText(net, 0, 0), "7/6 7 7 7 8 8/7 7");
         net.post(0, 2);
-        Check.is("twice the same", State.seenText(net, 2, 1), "7/7 7");
+        Check.is("twice the same", Nets.seenText(net, 2, 1), "7/7 7");
         net.post(0, 6);
-        Check.is("the same node number alone", State.seenText(net, 6, 2), "7/7 8/7");
+        Check.is("the same node number alone", Nets.seenText(net, 6, 2), "7/7 8/7");
         BulletinNet same = new BulletinNet();
         for (int node = 0; node < 12; node++) {
             same.addNode(1 + node % 9, 50 + node / 9, 3, NONE, 0);
         }
         joinAll(same);
         same.post(2, 9);
-        Check.is("no link that carries it", State.seenText(same, 9, 0), "51/3");
+        Check.is("no link that carries it", Nets.seenText(same, 9, 0), "51/3");
         same.post(0, 0);
-        Check.is("all zones", State.seenText(same, 0, 1), "50/3 3 3 3 3 3 3 3 3 51/3 3 3");
+        Check.is("all zones", Nets.seenText(same, 0, 1), "50/3 3 3 3 3 3 3 3 3 51/3 3 3");
         BulletinNet full = new BulletinNet();
         for (int node = 0; node < 12; node++) {
             full.addNode(1, 99 - node, 99, NONE, 0);
         }
         joinAll(full);
         full.post(0, 0);
-        Check.is("the longest", State.seenText(full, 0, 0),
+        Check.is("the longest", Nets.seenText(full, 0, 0),
                 "88/99 89/99 90/99 91/99 92/99 93/99 94/99 95/99 96/99 97/99 98/99 99/99");
         Check.is("its last character", full.seenAt(0, 0, 70), '9');
         Check.is("the one behind", full.seenAt(0, 0, 71), ' ');
@@ -278,16 +278,16 @@ public final class MessagesTest {
         BulletinNet net = Nets.loose(2);
         net.post(0, 0);
         for (int number : new int[] {-1, 2, 12, 30, Integer.MIN_VALUE, Integer.MAX_VALUE}) {
-            Check.fails("gotAt node " + number, net, Nets.INDEX, () -> net.gotAt(number, 0));
-            Check.fails("gotAt message " + number, net, Nets.INDEX, () -> net.gotAt(0, number));
-            Check.fails("seenBy node " + number, net, Nets.INDEX, () -> net.seenBy(number, 0));
-            Check.fails("seenBy message " + number, net, Nets.INDEX, () -> net.seenBy(0, number));
-            Check.fails("seenAt node " + number, net, Nets.INDEX, () -> net.seenAt(number, 0, 0));
-            Check.fails("seenAt message " + number, net, Nets.INDEX, () -> net.seenAt(0, number, 0));
-            Check.fails("doubles of " + number, net, Nets.INDEX, () -> net.doubles(number));
+            Check.fails("gotAt node " + number, Nets.INDEX, () -> net.gotAt(number, 0));
+            Check.fails("gotAt message " + number, Nets.INDEX, () -> net.gotAt(0, number));
+            Check.fails("seenBy node " + number, Nets.INDEX, () -> net.seenBy(number, 0));
+            Check.fails("seenBy message " + number, Nets.INDEX, () -> net.seenBy(0, number));
+            Check.fails("seenAt node " + number, Nets.INDEX, () -> net.seenAt(number, 0, 0));
+            Check.fails("seenAt message " + number, Nets.INDEX, () -> net.seenAt(0, number, 0));
+            Check.fails("doubles of " + number, Nets.INDEX, () -> net.doubles(number));
         }
-        Check.fails("the message 1", net, Nets.INDEX, () -> net.gotAt(0, 1));
-        Check.fails("the set of message 1", net, Nets.INDEX, () -> net.seenBy(0, 1));
-        Check.fails("the text of message 1", net, Nets.INDEX, () -> net.seenAt(0, 1, 0));
+        Check.fails("the message 1", Nets.INDEX, () -> net.gotAt(0, 1));
+        Check.fails("the set of message 1", Nets.INDEX, () -> net.seenBy(0, 1));
+        Check.fails("the text of message 1", Nets.INDEX, () -> net.seenAt(0, 1, 0));
     }
 }

@@ -94,4 +94,15 @@ final class Nets {
             net.type(character);
         }
     }
+
+    /** The seen-by as it is written; two spaces behind one another are behind its end. */
+    static String seenText(BulletinNet net, int node, int message) {
+        StringBuilder text = new StringBuilder();
+        boolean isAtEnd = false;
+        for (int place = 0; place < 100 && !isAtEnd; place++) {
+            text.append(net.seenAt(node, message, place));
+            isAtEnd = text.length() > 1 && text.toString().endsWith("  ");
+        }
+        return text.toString().stripTrailing();
+    }
 }
