@@ -16,6 +16,7 @@ public final class EdgesOfHoursTest {
         promise22WantedOverMidnight();
         promise22WantedOnceHoweverOften();
         promise22DownWhenItWasWanted();
+        promise22TakenDownWhenItWaits();
         promise22LinksOfThisHourThatAreNew();
         promise22RisingNumbers();
         promise22WhatComesWaitsForTheNextCall();
@@ -24,10 +25,12 @@ public final class EdgesOfHoursTest {
         promise24NodesFrom0ToTheLast();
         promise24TheTariffOfEachHour();
         promise24FromNoneToManyOverACall();
+        promise24WhateverGoesOverCounts();
         promise24TheCallerAlonePays();
         promise25AreasAndNodesFrom0ToTheLast();
         promise25FromItselfToAll();
         promise25OnlyLinksThatCarryTheArea();
+        promise25NotWhatIsInBundles();
         fiveHundredAndTwelveCalls();
         Check.end("EdgesOfHoursTest");
     }
@@ -226,6 +229,23 @@ public final class EdgesOfHoursTest {
         Edge.is(22, "down and up within its hour", net.pass(1), 1);
     }
 
+    /** The second of two links of one hour was busy in it: going down and up does not end its wait. */
+    private static void promise22TakenDownWhenItWaits() {
+        for (int hours = 0; hours <= 30; hours++) {
+            BulletinNet net = Nets.loose(2);
+            net.link(0, 1, 0);
+            net.link(1, 0, 0);
+            Edge.is(22, "the first of both", net.pass(1), 1);
+            net.setDown(1, true);
+            net.setDown(0, true);
+            Edge.is(22, "both down for " + hours, hours == 0 ? 0 : net.pass(hours), 0);
+            net.setDown(1, false);
+            Edge.is(22, "the second is still wanted behind " + hours, net.pass(1), 1);
+            Edge.is(13, "it was called", net.calls(1), 1);
+            Edge.is(13, "the first one was not", net.calls(0), 1);
+        }
+    }
+
     private static void promise22LinksOfThisHourThatAreNew() {
         BulletinNet net = Nets.loose(6);
         net.pass(5);
@@ -369,6 +389,33 @@ public final class EdgesOfHoursTest {
         }
     }
 
+    /** Doubles, and mails that are lost where they come to, went over the call like all others. */
+    private static void promise24WhateverGoesOverCounts() {
+        for (int count = 0; count <= 9; count++) {
+            BulletinNet net = Nets.loose(5);
+            int[][] ends = {{0, 1}, {0, 2}, {1, 3}, {2, 3}};
+            for (int link = 0; link < 4; link++) {
+                net.link(ends[link][0], ends[link][1], link);
+                net.carry(link, 0, true);
+            }
+            for (int item = 0; item < count; item++) {
+                net.post(0, 0);
+            }
+            net.pass(24);
+            Edge.is(19, "doubles of " + count, net.doubles(3), count);
+            Edge.is(24, "a call of doubles alone, " + count, net.cost(2), 3 * (1 + (count + 3) / 4));
+            BulletinNet tree = Nets.tree();
+            for (int item = 0; item < count; item++) {
+                tree.mail(2, 6);
+            }
+            tree.pass(24);
+            Edge.is(24, "a call of mails that are lost, " + count, tree.cost(2), 3 * (1 + (count + 3) / 4));
+            for (int item = 0; item < count; item++) {
+                Edge.is(21, "lost at the hub", tree.isLost(item) && tree.mailAt(item) == 0, true);
+            }
+        }
+    }
+
     private static void promise24TheCallerAlonePays() {
         BulletinNet net = Nets.loose(3);
         net.link(0, 1, 0);
@@ -446,6 +493,21 @@ public final class EdgesOfHoursTest {
         Edge.is(25, "not in this one", net.reach(0, 5), 0b100000);
         net.carry(5, 2, true);
         Edge.is(25, "not over links of several areas", net.reach(1, 0), 0b100001);
+    }
+
+    /** A copy in a bundle stays when its link does not carry the area any more; reach asks the links. */
+    private static void promise25NotWhatIsInBundles() {
+        BulletinNet net = Nets.pair(0);
+        net.post(0, 0);
+        net.post(0, 1);
+        net.carry(0, 0, false);
+        Edge.is(25, "the caller, with a copy in its bundle", net.reach(0, 0), 0b01);
+        Edge.is(25, "the other one, with a copy in its bundle", net.reach(0, 1), 0b10);
+        net.pass(1);
+        Edge.is(16, "the copy came nevertheless", net.gotAt(1, 0), 0);
+        Edge.is(25, "the caller then", net.reach(0, 0), 0b01);
+        net.carry(0, 0, true);
+        Edge.is(25, "both when it carries it again", net.reach(0, 0), 0b11);
     }
 
     /** The document tells what 512 calls answer: the last of them must be answered like the others. */

@@ -25,6 +25,7 @@ public final class EdgesOfMessagesTest {
         promise18WithoutTheMessage();
         promise19NodesFrom0ToTheLast();
         promise19ADoubleAndNothingElse();
+        promise19ADoubleWithAnotherSet();
         promise19WhatIsNoDouble();
         Check.end("EdgesOfMessagesTest");
     }
@@ -431,6 +432,30 @@ public final class EdgesOfMessagesTest {
         net.post(0, 0);
         net.pass(48);
         Edge.is(19, "a second message, a second double", net.doubles(3), 2);
+    }
+
+    /** The copy that comes second knows a node that the first one does not: nothing of it is kept. */
+    private static void promise19ADoubleWithAnotherSet() {
+        BulletinNet net = Nets.loose(6);
+        int[][] links = {{0, 1}, {0, 2}, {1, 3}, {3, 2}, {2, 4}, {3, 4}, {3, 5}};
+        for (int link = 0; link < 7; link++) {
+            net.link(links[link][0], links[link][1], link);
+            net.carry(link, 0, link < 5);
+        }
+        net.post(0, 0);
+        net.pass(3);
+        Edge.is(17, "the set of the one that came first", net.seenBy(3, 0), 0b01111);
+        Edge.is(17, "the set that the second one brings", net.seenBy(2, 0), 0b11111);
+        net.carry(5, 0, true);
+        net.carry(6, 0, true);
+        net.pass(1);
+        Edge.is(19, "the second one is a double", net.doubles(3), 1);
+        Edge.is(17, "its set is not kept", net.seenBy(3, 0), 0b01111);
+        Edge.is(18, "nor written", Nets.seenText(net, 3, 0), "1/0 1 2 3");
+        Edge.is(16, "nor its hour", net.gotAt(3, 0), 2);
+        Edge.is(19, "it goes on to none of the new links", net.bundle(5, true) + net.bundle(6, true), 0);
+        Edge.is(19, "the sender has no double", net.doubles(2), 0);
+        Edge.is(17, "the sender's set as it was", net.seenBy(2, 0), 0b11111);
     }
 
     private static void promise19WhatIsNoDouble() {

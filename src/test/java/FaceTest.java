@@ -5,7 +5,6 @@ import java.lang.reflect.Method;
 import java.lang.reflect.Modifier;
 import java.nio.file.Files;
 import java.nio.file.Path;
-import java.util.Arrays;
 import java.util.HashMap;
 import java.util.HashSet;
 import java.util.Map;
@@ -18,42 +17,49 @@ public final class FaceTest {
     private static final String INDEX = "IndexOutOfBoundsException";
     private static final String ARGUMENT = "IllegalArgumentException";
     private static final String STATE = "IllegalStateException";
+    /** The methods as the document writes them. */
     private static final String[] FACE = {
-        "int addNode(int, int, int, int, int) " + INDEX + " " + ARGUMENT + " " + STATE,
-        "int setHome(int) " + INDEX,
-        "int type(char) " + ARGUMENT + " " + STATE,
-        "int clearText()",
-        "int find() " + STATE,
-        "int nodes()",
-        "int link(int, int, int) " + INDEX + " " + ARGUMENT + " " + STATE,
-        "boolean carry(int, int, boolean) " + INDEX,
-        "boolean setDown(int, boolean) " + INDEX,
-        "int links()",
-        "int bundle(int, boolean) " + INDEX,
-        "int calls(int) " + INDEX,
-        "int post(int, int) " + INDEX + " " + STATE,
-        "int mail(int, int) " + INDEX + " " + ARGUMENT + " " + STATE,
-        "int gotAt(int, int) " + INDEX,
-        "int seenBy(int, int) " + INDEX,
-        "char seenAt(int, int, int) " + INDEX,
-        "int doubles(int) " + INDEX,
-        "int mailAt(int) " + INDEX,
-        "boolean isLost(int) " + INDEX,
-        "int pass(int) " + ARGUMENT + " " + STATE,
-        "int clock()",
-        "int cost(int) " + INDEX,
-        "int reach(int, int) " + INDEX,
+        "public int addNode(int zone, int net, int node, int hub, int hour) throws "
+                + INDEX + ", " + ARGUMENT + ", " + STATE,
+        "public int setHome(int node) throws " + INDEX,
+        "public int type(char character) throws " + ARGUMENT + ", " + STATE,
+        "public int clearText()",
+        "public int find() throws " + STATE,
+        "public int nodes()",
+        "public int link(int caller, int other, int hour) throws " + INDEX + ", " + ARGUMENT + ", " + STATE,
+        "public boolean carry(int link, int area, boolean carries) throws " + INDEX,
+        "public boolean setDown(int link, boolean isDown) throws " + INDEX,
+        "public int links()",
+        "public int bundle(int link, boolean isCaller) throws " + INDEX,
+        "public int calls(int link) throws " + INDEX,
+        "public int post(int area, int node) throws " + INDEX + ", " + STATE,
+        "public int mail(int from, int to) throws " + INDEX + ", " + ARGUMENT + ", " + STATE,
+        "public int gotAt(int node, int message) throws " + INDEX,
+        "public int seenBy(int node, int message) throws " + INDEX,
+        "public char seenAt(int node, int message, int place) throws " + INDEX,
+        "public int doubles(int node) throws " + INDEX,
+        "public int mailAt(int mail) throws " + INDEX,
+        "public boolean isLost(int mail) throws " + INDEX,
+        "public int pass(int hours) throws " + ARGUMENT + ", " + STATE,
+        "public int clock()",
+        "public int cost(int node) throws " + INDEX,
+        "public int reach(int area, int node) throws " + INDEX,
     };
 
     public static void main(String[] args) throws IOException {
         theMethods();
         theRestOfTheFace();
-        theText(Files.readString(Path.of("src/main/java/BulletinNet.java")));
+        String text = Files.readString(Path.of("src/main/java/BulletinNet.java"));
+        theNamesAndThrowsClauses(text);
+        theText(text);
         Check.end("FaceTest");
     }
 
     private static void theMethods() {
-        Set<String> due = new TreeSet<>(Arrays.asList(FACE));
+        Set<String> due = new TreeSet<>();
+        for (String method : FACE) {
+            due.add(method.replaceAll("(int|char|boolean) \\w+(?=[,)])", "$1"));
+        }
         Set<String> got = new TreeSet<>();
         Set<String> names = new HashSet<>();
         for (Method method : BulletinNet.class.getDeclaredMethods()) {
@@ -73,16 +79,29 @@ public final class FaceTest {
     }
 
     private static String told(Method method) {
-        StringBuilder text = new StringBuilder(method.getReturnType().getSimpleName());
+        StringBuilder text = new StringBuilder("public ");
+        text.append(method.getReturnType().getSimpleName());
         text.append(' ').append(method.getName()).append('(');
         for (Class<?> type : method.getParameterTypes()) {
             text.append(text.charAt(text.length() - 1) == '(' ? "" : ", ").append(type.getSimpleName());
         }
         text.append(')');
+        String before = " throws ";
         for (Class<?> type : method.getExceptionTypes()) {
-            text.append(' ').append(type.getSimpleName());
+            text.append(before).append(type.getSimpleName());
+            before = ", ";
         }
         return text.toString();
+    }
+
+    /** Names of parameters are in the text alone. */
+    private static void theNamesAndThrowsClauses(String text) {
+        String inOneLine = text.replaceAll("\\s+", " ");
+        for (String method : FACE) {
+            Check.is("the text has: " + method, inOneLine.contains(" " + method + " {"), true);
+        }
+        Check.is("the text has NONE", inOneLine.contains(" public static final int NONE = -1;"), true);
+        Check.is("the text has the class", inOneLine.contains(" public final class BulletinNet {"), true);
     }
 
     private static void theRestOfTheFace() {

@@ -6,6 +6,7 @@ import java.util.function.IntSupplier;
  */
 public final class ModelTest {
     private static final int RUNS = 400;
+    private static final int FLOODS = 200;
     private static final int CALLS = 512;
 
     private final BulletinNet net = new BulletinNet();
@@ -26,6 +27,9 @@ public final class ModelTest {
     public static void main(String[] args) {
         for (int run = 0; run < RUNS; run++) {
             new ModelTest(run).compare();
+        }
+        for (int run = RUNS; run < RUNS + FLOODS; run++) {
+            new ModelTest(run).compareFlood();
         }
         Check.end("ModelTest");
     }
@@ -62,6 +66,84 @@ public final class ModelTest {
             } else {
                 ask();
             }
+        }
+    }
+
+    /** A net of many rings, in which messages come by several ways, and then all there is to ask. */
+    private void compareFlood() {
+        int area = below(3);
+        for (int node = 0; node < 12; node++) {
+            int number = node;
+            int hub = node == 0 || below(3) == 0 ? -1 : below(node);
+            int hour = below(24);
+            // Three zones with the same nets and node numbers, two and two of them.
+            int zone = 1 + number / 4;
+            int network = 1 + number % 2;
+            int last = 7 * (number / 2 % 2);
+            same("addNode", () -> net.addNode(zone, network, last, hub, hour),
+                    () -> plain.addNode(zone, network, last, hub, hour));
+        }
+        for (int link = plain.links(); link < 20; link++) {
+            int caller = below(12);
+            int other = below(12);
+            int hour = below(24);
+            same("link", () -> net.link(caller, other, hour), () -> plain.link(caller, other, hour));
+        }
+        for (int link = 0; link < 20; link++) {
+            change(link, area, below(6) > 0);
+        }
+        for (int item = 0; item < 30; item++) {
+            sendAndPass(area);
+        }
+        askAll();
+    }
+
+    private void change(int link, int area, boolean carries) {
+        same("carry", () -> net.carry(link, area, carries) ? 1 : 0,
+                () -> plain.carry(link, area, carries) ? 1 : 0);
+    }
+
+    private void sendAndPass(int area) {
+        int node = below(12);
+        int to = below(12);
+        int hours = 1 + below(8);
+        same("post", () -> net.post(area, node), () -> plain.post(area, node));
+        same("mail", () -> net.mail(node, to), () -> plain.mail(node, to));
+        same("pass", () -> net.pass(hours), () -> plain.pass(hours));
+        int link = below(20);
+        if (below(3) == 0) {
+            change(link, area, below(3) > 0);
+        } else if (below(3) == 0) {
+            boolean isDown = below(2) == 0;
+            same("setDown", () -> net.setDown(link, isDown) ? 1 : 0,
+                    () -> plain.setDown(link, isDown) ? 1 : 0);
+        }
+    }
+
+    private void askAll() {
+        for (int number = 0; number < 12; number++) {
+            int node = number;
+            same("doubles", () -> net.doubles(node), () -> plain.doubles(node));
+            same("cost", () -> net.cost(node), () -> plain.cost(node));
+        }
+        for (int number = 0; number < 20; number++) {
+            int link = number;
+            same("calls", () -> net.calls(link), () -> plain.calls(link));
+            same("bundle", () -> net.bundle(link, true), () -> plain.bundle(link, true));
+            same("bundle", () -> net.bundle(link, false), () -> plain.bundle(link, false));
+        }
+        for (int number = 0; number < 30; number++) {
+            int mail = number;
+            same("mailAt", () -> net.mailAt(mail), () -> plain.mailAt(mail));
+        }
+        while (calls < CALLS) {
+            int node = below(12);
+            int message = below(30);
+            int place = below(30);
+            same("seenAt", () -> net.seenAt(node, message, place),
+                    () -> plain.seenAt(node, message, place));
+            same("seenBy", () -> net.seenBy(node, message), () -> plain.seenBy(node, message));
+            same("gotAt", () -> net.gotAt(node, message), () -> plain.gotAt(node, message));
         }
     }
 
