@@ -12,6 +12,8 @@ public final class EdgesOfMailTest {
         promise15TheLowestOfTwentyLinks();
         promise15ALinkBeforeTheWayByHubs();
         promise15OnlyWhoIsBelow();
+        promise15LinksThatComeWhileItIsOnItsWay();
+        promise15LinksThatAreDown();
         promise20MailsFrom0ToTheLast();
         promise20UpTheLongestWay();
         promise20DownTheLongestWay();
@@ -143,6 +145,65 @@ public final class EdgesOfMailTest {
             Edge.is(15, "in no other bundle", net.bundle(link, true) + net.bundle(link, false),
                     link == 2 || link == 3 ? 2 : link == 4 ? 0 : 1);
         }
+    }
+
+    /** What is in a bundle stays there; the node that it comes to goes by the links that it has then. */
+    private static void promise15LinksThatComeWhileItIsOnItsWay() {
+        BulletinNet up = Nets.tree();
+        up.mail(5, 2);
+        up.link(5, 2, 20);
+        up.link(3, 2, 12);
+        Edge.is(15, "it stays in its bundle", up.bundle(4, true), 1);
+        Edge.is(15, "not in that of a new link", up.bundle(5, true), 0);
+        Nets.passTo(up, 6);
+        Edge.is(15, "the next node takes its new link", up.bundle(6, true), 1);
+        Edge.is(15, "not the one to its hub", up.bundle(2, true), 0);
+        Nets.passTo(up, 13);
+        Edge.is(20, "it came over that", up.mailAt(0), 2);
+        BulletinNet down = Nets.tree();
+        down.mail(0, 5);
+        down.link(5, 1, 9);
+        Nets.passTo(down, 2);
+        Edge.is(15, "the node below takes its new link", down.bundle(5, false), 1);
+        Edge.is(15, "not the one to the node below it", down.bundle(2, false), 0);
+        BulletinNet saved = Nets.tree();
+        saved.mail(1, 6);
+        saved.link(6, 0, 9);
+        Nets.passTo(saved, 2);
+        Edge.is(21, "not lost at the top, which has a link now", saved.isLost(0), false);
+        Edge.is(15, "over that link", saved.bundle(5, false), 1);
+    }
+
+    /** A link that is down is a way like any other one: up, down, and to the node itself. */
+    private static void promise15LinksThatAreDown() {
+        BulletinNet net = Nets.tree();
+        for (int link = 0; link < 5; link++) {
+            net.setDown(link, true);
+        }
+        net.link(5, 0, 7);
+        net.setDown(5, true);
+        int[][] ways = {{3, 2}, {0, 4}, {4, 1}, {1, 4}, {5, 0}, {0, 5}};
+        int[] links = {2, 0, 3, 3, 5, 5};
+        boolean[] byCaller = {true, false, true, false, true, false};
+        for (int mail = 0; mail < ways.length; mail++) {
+            net.mail(ways[mail][0], ways[mail][1]);
+            int bundle = net.bundle(links[mail], byCaller[mail]);
+            Edge.is(15, "mail " + mail + " over a link that is down", bundle, 1);
+            Edge.is(21, "it is not lost", net.isLost(mail), false);
+        }
+        net.pass(240);
+        for (int mail = 0; mail < ways.length; mail++) {
+            Edge.is(20, "it stays where it is", net.mailAt(mail), ways[mail][0]);
+            Edge.is(21, "it is not lost there", net.isLost(mail), false);
+        }
+        BulletinNet far = Nets.tree();
+        far.setDown(2, true);
+        far.mail(5, 2);
+        far.mail(0, 5);
+        Nets.passTo(far, 24);
+        Edge.is(15, "on its way up before one that is down", far.bundle(2, true), 1);
+        Edge.is(15, "on its way down before it", far.bundle(2, false), 1);
+        Edge.is(21, "neither is lost", far.isLost(0) || far.isLost(1), false);
     }
 
     private static void promise20MailsFrom0ToTheLast() {

@@ -483,6 +483,12 @@ public final class EdgesOfNodesTest {
             "1234567890", "::::::::::", "//////////", "01:01/09:0", "1:1/9/1:1/"}) {
             isNoAddress(text);
         }
+        // A part that is 0 is there like any other one.
+        for (String text : new String[] {"0:1:1/9", "00:1:1/9", "0:0:0/0", "0/1/9", "00/1/9", "0/0/0",
+            "0/1:1/9", "1:0/1/9", "1:00/1/9", "0:0/0/0", "0:", "0/", "0:0", "0:0/", ":0", "/0", ":0/0",
+            "0:/0"}) {
+            isNoAddress(text);
+        }
     }
 
     private static void promise6PartsMissingWithoutNodes() {
